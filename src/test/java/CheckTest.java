@@ -78,10 +78,10 @@ public final class CheckTest {
     private static void termsThatAreNone() {
         String[] terms = {"foo", "ALL", "All", "+", "-", "++all", "+-all", "all:", "all:x.y", "all/8", "all/", "include",
             "include:", "include:a/b", "include:a.b/8", "include/8", "a:", "a:/8", "a/", "a/33", "a/08", "a/00", "a/x",
-            "a/8/8", "a//8", "a:x.y/", "a:x.y/33", "a:x.y/-1", "a:x.y/8x", "a/100", "mx:", "mx/", "mx/33", "mx:/8", "mx:x/01", "m",
+            "a/8/8", "a/:", "x{=y", "{x=y", "x`=y", "a//8", "a:x.y/", "a:x.y/33", "a:x.y/-1", "a:x.y/8x", "a/100", "mx:", "mx/", "mx/33", "mx:/8", "mx:x/01", "m",
             "ip4", "ip4:", "ip4:1", "ip4:1.2.3", "ip4:1.2.3.4/", "ip4:1.2.3.4/33", "ip4:1.2.3.4/08", "ip4:01.2.3.4",
             "ip4:1.2.3.256", "ip4:1.2.3.4.5", "ip4:%{i}", "ip4/8", "ip4:/8", "ip6:1", "exists", "exists:", "exists:a/8", "exists/8",
-            "exists:%", "exists:%x", "exists:%{", "exists:%{}", "exists:%{d", "exists:%{q}", "exists:%{D}", "exists:%{d0}",
+            "exists:%", "exists:%x", "exists:%{", "exists:%{}", "exists:%{d", "exists:%{q}", "exists:%{D}", "exists:%{d0}", "exists:%{d:}", "exists:%{d/}",
             "exists:%{d12}", "exists:%{dr2}", "exists:%{drr}", "exists:%{r}", "exists:%%%", "exists:%{d}%", "exists:%{d-}",
             "exists:% {d}", "a:%/8", "a:%{d/8", "redirect=", "redirect=%", "redirect:x.y", "redirect", "exp=%", "exp=%{x}", "x=%%%",
             "=x", "-x=y", "+all=x", "9x=y", "_x=y", "X=y", "x:=y", "x,y=z", "ptr", "ip4.x"};
@@ -145,6 +145,7 @@ public final class CheckTest {
         checks(probe, "8.1.1.1", "d.e", "4 3 0 2 1 d.e");
         checks(probe, "5.6.8.8", "d.e", "1 3 0 -1 1 d.e");
         checks(table("2 d.e v=spf1 a/0", "0 d.e 1.1.1.1"), "255.0.0.0", "d.e", "2 1 0 0 1 d.e");
+        checks(table("0 d.e 1.1.1.1", "2 d.e v=spf1 a"), "1.1.1.1", "d.e", "2 1 0 0 1 d.e");
         checks(table("2 d.e v=spf1 a:com", "0 com 1.1.1.1"), "1.1.1.1", "d.e", "2 1 0 0 1 com");
         // What is no name is not asked for, but costs the lookup.
         checks(table("2 d.e v=spf1 a:x..y mx:X exists:%% -all"), "1.1.1.1", "d.e", "3 3 0 3 1 d.e");
@@ -156,6 +157,7 @@ public final class CheckTest {
         checks(probe, "2.2.2.2", "d.e", "2 1 0 0 1 y.e");
         checks(probe, "2.2.3.3", "d.e", "3 2 0 1 1 y.e");
         checks(probe, "2.3.3.3", "d.e", "1 2 0 -1 1 y.e");
+        checks(table("1 d.e x.e", "2 d.e v=spf1 mx", "0 x.e 1.1.1.1"), "1.1.1.1", "d.e", "2 1 0 0 1 x.e");
         checks(table("2 d.e v=spf1 mx -all"), "1.1.1.1", "d.e", "3 1 1 1 1 d.e");
         checks(table("2 d.e v=spf1 mx -all", "1 d.e v.e"), "1.1.1.1", "d.e", "3 1 1 1 1 v.e");
         checks(table("2 d.e v=spf1 mx -all", "1 d.e v.e", "1 d.e w.e", "1 d.e h.e", "0 h.e 1.1.1.1"),
@@ -241,7 +243,17 @@ public final class CheckTest {
         expands("a-%{d1}_%{o1}.%{i1r}b", "a-k_g.1b");
         checks(table("2 a.b v=spf1 exists:%%.b exists:%%{d} exists:%{d}%%", "0 a.b 1.1.1.1"), "0.0.0.0", "a.b", "1 3 0 -1 1 a.b");
         checks(table("2 a.b v=spf1 exists:%{i}.x", "0 0.0.0.0.x 1.1.1.1"), "0.0.0.0", "a.b", "2 1 0 0 1 0.0.0.0.x");
-        checks(new Probe(), "255.255.255.255", "a.b", "0 0 0 -1 1 a.b");
+        String[] addresses = {"255.255.255.255", "0.0.0.0", "100.99.10.9", "101.110.199.200", "250.20.11.1", "1.90.19.109"};
+        for (String address : addresses) {
+            checks(table("2 a.b v=spf1 exists:%{i}"), address, "a.b", "1 1 1 -1 1 " + address);
+        }
+        String twelveParts = "a.b.c.d.e.f.g.h.i.j.k.l";
+        String[] macros = {"%{d}", "%{dr}", "%{d9}", "%{d9r}", "%{d8}", "%{d8r}"};
+        String[] expanded = {twelveParts, "l.k.j.i.h.g.f.e.d.c.b.a", "d.e.f.g.h.i.j.k.l", "i.h.g.f.e.d.c.b.a", "e.f.g.h.i.j.k.l",
+            "h.g.f.e.d.c.b.a"};
+        for (int k = 0; k < macros.length; k++) {
+            checks(table("2 " + twelveParts + " v=spf1 exists:" + macros[k]), "1.1.1.1", twelveParts, "1 1 1 -1 1 " + expanded[k]);
+        }
         // 48 characters are a name, 49 are none.
         String twelve = "abcdefgh.ijk";
         checks(table("2 " + twelve + " v=spf1 exists:%{d}%{d}%{d}%{d}"), "1.1.1.1", twelve, "1 1 1 -1 1 " + twelve.repeat(4));

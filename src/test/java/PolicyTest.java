@@ -66,7 +66,7 @@ public final class PolicyTest {
         String[] none = {"v=DMARC1", "v=DMARC1;", "v=DMARC1; ;", "v=DMARC1 ;p=none", "v=DMARC1p=none", "v=DMARC1 p=none", "v=DMARC2;p=none",
             "v=dmarc1;p=none", " v=DMARC1;p=none", "p=none;v=DMARC1", "v=DMARC1;p=", "v=DMARC1;p", "v=DMARC1;p =none", "v=DMARC1;p= none",
             "v=DMARC1;p=no ne", "v=DMARC1;p=None", "v=DMARC1;P=none", "v=DMARC1;p=x;p=none", "v=DMARC1;=none;p=none", "v=DMARC1;p=none;x",
-            "v=DMARC1;p=none;x=", "v=DMARC1;p=none;x1=y", "v=DMARC1;p=none;X=y", "v=DMARC1;p=none;sp=x", "v=DMARC1;sp=none", "v=DMARC1;p=none;sp=x;sp=none",
+            "v=DMARC1;p=none;x=", "v=DMARC1;p=none;x1=y", "v=DMARC1;p=none;X=y", "v=DMARC1;p=none;x{=y", "v=DMARC1;p=none;`=y", "v=DMARC1;p=none;pct=:", "v=DMARC1;p=none;sp=x", "v=DMARC1;sp=none", "v=DMARC1;p=none;sp=x;sp=none",
             "v=DMARC1;p=none;aspf=x", "v=DMARC1;p=none;aspf=R", "v=DMARC1;p=none;aspf=rs", "v=DMARC1;p=none;pct=101", "v=DMARC1;p=none;pct=01",
             "v=DMARC1;p=none;pct=00", "v=DMARC1;p=none;pct=-1", "v=DMARC1;p=none;pct=1000", "v=DMARC1;p=none;pct=5x", "v=DMARC1;p=none x=y",
             "v=DMARC1;p=none;=", "v=DMARC1;p=none=", "v=DMARC1;p=nonex", "v=DMARC1;pp=none", "v=DMARC1;p=none;pct=5 0", "v=DMARC1,p=none", "v=DMARC"};

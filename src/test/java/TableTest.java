@@ -49,7 +49,7 @@ public final class TableTest {
     }
 
     private static void rowRefusesTexts() {
-        String[] noNames = {"", ".", "a.", ".a", "a..b", "A", "a.B", "a/b", "a:b", "a%", LONG + "a", "b." + LONG + "a",
+        String[] noNames = {"", ".", "a.", ".a", "a..b", "A", "a.B", "a/b", "a:b", "a%", "a{", "`a", "a~", "a,", LONG + "a", "b." + LONG + "a",
             LONG + "a.b", LONG + "." + LONG + ".aaaaaaaaaaaaaaa", "a.a.a.a.a.a.a.a.a.a.a.a.a.a.a.a.a.a.a.a.a.a.a.aaa"};
         for (String name : noNames) {
             refuses(0, name + " 1.2.3.4");
@@ -60,7 +60,7 @@ public final class TableTest {
             refuses(1, "a " + name);
         }
         String[] noAddresses = {"", "1", "1.2.3", "1.2.3.4.5", "1.2.3.", ".1.2.3", "1..2.3", "01.2.3.4", "1.2.3.00",
-            "256.1.1.1", "1.1.1.256", "1.2.3.1000", "1.2.3.4 ", " 1.2.3.4", "1.2.3.a", "-1.2.3.4", "1.2.3.4.", "1,2,3,4"};
+            "256.1.1.1", "1.1.1.256", "1.2.3.1000", "1.2.3.4 ", " 1.2.3.4", "1.2.3.a", "1.2.3.:", "1.2.3./", "-1.2.3.4", "1.2.3.4.", "1,2,3,4"};
         for (String address : noAddresses) {
             refuses(0, "a " + address);
         }
