@@ -765,7 +765,7 @@ public final class MailGuard {
         }
 
         /** The result for the domain of the level. */
-        int evaluate(int depth) {
+        private int evaluate(int depth) {
             checks++;
             Text domain = levels[depth].domain;
             if (domain.startOfLast(1) == 0) {

@@ -1,6 +1,6 @@
 /** Long mixed runs of calls, the same in each session, compared with Model call by call. */
 public final class ModelTest {
-    private static final int RUNS = 1500;
+    private static final int RUNS = 6000;
     private static final String[] NAMES = {"a.b", "a.b", "c.a.b", "b", "d.e", "x.d.e", "e.f.g", "1.2.a.b", "a", "b.a",
         "aaaaaaaaaaaaaaaa.bbbbbbbbbbbbbbbb.cccccccccc.a.b"};
     private static final String[] ADDRESSES = {"1.2.3.4", "1.2.3.5", "200.2.3.4", "0.0.0.0", "255.255.255.255", "1.2.200.1"};
@@ -14,6 +14,9 @@ public final class ModelTest {
 
     private static long state = 20261115;
 
+    // A run keeps to a few names, so that its rows meet each other.
+    private static String[] names = NAMES;
+
     private static int below(int bound) {
         state = state * 6364136223846793005L + 1442695040888963407L;
         return (int) ((state >>> 33) % bound);
@@ -24,7 +27,7 @@ public final class ModelTest {
     }
 
     private static String target() {
-        return below(3) == 0 ? one(TARGETS) : one(NAMES);
+        return below(3) == 0 ? one(TARGETS) : one(names);
     }
 
     private static String bits() {
@@ -77,12 +80,12 @@ public final class ModelTest {
     }
 
     private static String rowText(int type) {
-        String name = one(NAMES);
+        String name = one(names);
         switch (type) {
             case 0:
                 return name + " " + one(ADDRESSES);
             case 1:
-                return name + " " + one(NAMES);
+                return name + " " + one(names);
             case 2:
                 return below(3) == 0 ? "_dmarc." + name + " " + policyData() : name + " " + record();
             default:
@@ -106,7 +109,7 @@ public final class ModelTest {
     }
 
     private static int kindOfRow() {
-        int[] kinds = {0, 0, 0, 1, 1, 2, 2, 2, 2, 2, 2, 3, 4};
+        int[] kinds = {0, 0, 0, 0, 1, 1, 1, 2, 2, 2, 2, 2, 2, 2, 2, 4, below(2) == 0 ? 3 : 4};
         return kinds[below(kinds.length)];
     }
 
@@ -115,7 +118,7 @@ public final class ModelTest {
         int chance = below(30) == 0 ? 100 : below(100);
         int address = Probe.address(one(ADDRESSES));
         int type = below(60) == 0 ? 5 : kindOfRow();
-        String name = one(NAMES);
+        String name = one(names);
         switch (below(12)) {
             case 0:
                 Probe.due(run + ": drop(" + k + ")", probe.guard.drop(k), model.drop(k));
@@ -144,7 +147,8 @@ public final class ModelTest {
         for (int run = 0; run < RUNS; run++) {
             Probe probe = new Probe();
             Model model = new Model();
-            for (int call = 0; call < 80; call++) {
+            names = new String[] {one(NAMES), one(NAMES), one(NAMES), one(NAMES), one(NAMES)};
+            for (int call = 0; call < 25; call++) {
                 step(run, probe, model);
             }
         }
