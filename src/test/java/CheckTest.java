@@ -22,37 +22,22 @@ public final class CheckTest {
         Probe.end();
     }
 
-    /** A table of rows, each written as its type, a blank and its text. */
-    private static Probe table(String... rows) {
-        Probe probe = new Probe();
-        for (int k = 0; k < rows.length; k++) {
-            int type = rows[k].charAt(0) - '0';
-            Probe.due("row '" + rows[k] + "'", probe.row(type, rows[k].substring(2)), k + 1);
-        }
-        return probe;
-    }
-
-    /** The five answers of latest, and the name asked for last. */
     private static void checks(Probe probe, String address, String domain, String want) {
-        String call = "check of " + address + " and " + domain;
-        int result = probe.check(address, domain);
-        Probe.due(call, probe.latest() + " " + probe.asked(), want);
-        Probe.due(call, result, want.charAt(0) - '0');
-        Probe.due("length after " + call, probe.guard.length(), 0);
+        probe.checks(address, domain, want);
     }
 
     private static void record(String data, int want) {
-        Probe.due("'" + data + "'", table("2 d.e " + data).check("1.2.3.4", "d.e"), want);
+        Probe.due("'" + data + "'", Probe.of("2 d.e " + data).check("1.2.3.4", "d.e"), want);
     }
 
     private static void refusedTexts() {
         String[] texts = {"", ".", "a.", ".a", "a..b", "A.b", "a.b ", " a.b", "a/b", "aaaaaaaaaaaaaaaaa.b", NAME_48 + "a"};
         for (String text : texts) {
-            Probe probe = table("2 d.e v=spf1 -all");
+            Probe probe = Probe.of("2 d.e v=spf1 -all");
             probe.check("1.2.3.4", "d.e");
             probe.text(text);
             String before = probe.view();
-            Probe.due("check of '" + text + "'", Probe.caught(() -> probe.guard.check(1)), Probe.ILLEGAL_ARGUMENT);
+            Probe.due("check of '" + text + "'", Probe.caught(() -> probe.guard().check(1)), Probe.ILLEGAL_ARGUMENT);
             Probe.due("after check of '" + text + "'", probe.view(), before);
         }
         checks(new Probe(), "1.2.3.4", NAME_48, "0 0 0 -1 1 " + NAME_48);
@@ -69,10 +54,10 @@ public final class CheckTest {
         record("v=spf", 0);
         record("V=spf1 -all", 0);
         record(" v=spf1 -all", 0);
-        checks(table("2 com v=spf1 all", "3 com"), "1.2.3.4", "com", "0 0 0 -1 1 ");
-        checks(table("2 d.e x", "2 d.e v=spf1 -all", "2 d.e y", "2 d.f v=spf1 all"), "1.2.3.4", "d.e", "3 0 0 0 1 d.e");
-        checks(table("2 d.e v=spf1 all", "2 d.e v=spf1"), "1.2.3.4", "d.e", "6 0 0 -1 1 d.e");
-        checks(table("1 d.e v"), "1.2.3.4", "d.e", "0 0 0 -1 1 d.e");
+        checks(Probe.of("2 com v=spf1 all", "3 com"), "1.2.3.4", "com", "0 0 0 -1 1 ");
+        checks(Probe.of("2 d.e x", "2 d.e v=spf1 -all", "2 d.e y", "2 d.f v=spf1 all"), "1.2.3.4", "d.e", "3 0 0 0 1 d.e");
+        checks(Probe.of("2 d.e v=spf1 all", "2 d.e v=spf1"), "1.2.3.4", "d.e", "6 0 0 -1 1 d.e");
+        checks(Probe.of("1 d.e v"), "1.2.3.4", "d.e", "0 0 0 -1 1 d.e");
     }
 
     private static void termsThatAreNone() {
@@ -88,9 +73,9 @@ public final class CheckTest {
         for (String term : terms) {
             record("v=spf1 " + term, 6);
             // Nothing is done by the terms ahead of a wrong one.
-            checks(table("2 d.e v=spf1 a all " + term), "1.2.3.4", "d.e", "6 0 0 -1 1 d.e");
+            checks(Probe.of("2 d.e v=spf1 a all " + term), "1.2.3.4", "d.e", "6 0 0 -1 1 d.e");
         }
-        checks(table("2 d.e v=spf1 all redirect=x.y redirect=x.y"), "1.2.3.4", "d.e", "6 0 0 -1 1 d.e");
+        checks(Probe.of("2 d.e v=spf1 all redirect=x.y redirect=x.y"), "1.2.3.4", "d.e", "6 0 0 -1 1 d.e");
     }
 
     private static void termsThatAreSome() {
@@ -129,7 +114,7 @@ public final class CheckTest {
         record("v=spf1 ip4:127.0.0.0/1", 2);
         record("v=spf1 ip4:1.255.255.255/8", 2);
         record("v=spf1 ip4:1.255.255.255/9", 1);
-        Probe high = table("2 d.e v=spf1 ip4:255.255.255.255 -ip4:128.0.0.0/1 ?ip4:0.0.0.0");
+        Probe high = Probe.of("2 d.e v=spf1 ip4:255.255.255.255 -ip4:128.0.0.0/1 ?ip4:0.0.0.0");
         checks(high, "255.255.255.255", "d.e", "2 0 0 0 1 d.e");
         checks(high, "255.255.255.254", "d.e", "3 0 0 1 1 d.e");
         checks(high, "0.0.0.0", "d.e", "1 0 0 2 1 d.e");
@@ -137,32 +122,32 @@ public final class CheckTest {
     }
 
     private static void hosts() {
-        Probe probe = table("2 d.e v=spf1 a -a:h.e/24 ~a/8", "0 d.e 1.2.3.4", "0 h.e 5.6.7.8", "0 h.e 9.9.9.9", "0 d.e 8.8.8.8");
+        Probe probe = Probe.of("2 d.e v=spf1 a -a:h.e/24 ~a/8", "0 d.e 1.2.3.4", "0 h.e 5.6.7.8", "0 h.e 9.9.9.9", "0 d.e 8.8.8.8");
         checks(probe, "1.2.3.4", "d.e", "2 1 0 0 1 d.e");
         checks(probe, "8.8.8.8", "d.e", "2 1 0 0 1 d.e");
         checks(probe, "5.6.7.9", "d.e", "3 2 0 1 1 h.e");
         checks(probe, "9.9.9.1", "d.e", "3 2 0 1 1 h.e");
         checks(probe, "8.1.1.1", "d.e", "4 3 0 2 1 d.e");
         checks(probe, "5.6.8.8", "d.e", "1 3 0 -1 1 d.e");
-        checks(table("2 d.e v=spf1 a/0", "0 d.e 1.1.1.1"), "255.0.0.0", "d.e", "2 1 0 0 1 d.e");
-        checks(table("0 d.e 1.1.1.1", "2 d.e v=spf1 a"), "1.1.1.1", "d.e", "2 1 0 0 1 d.e");
-        checks(table("2 d.e v=spf1 a:com", "0 com 1.1.1.1"), "1.1.1.1", "d.e", "2 1 0 0 1 com");
+        checks(Probe.of("2 d.e v=spf1 a/0", "0 d.e 1.1.1.1"), "255.0.0.0", "d.e", "2 1 0 0 1 d.e");
+        checks(Probe.of("0 d.e 1.1.1.1", "2 d.e v=spf1 a"), "1.1.1.1", "d.e", "2 1 0 0 1 d.e");
+        checks(Probe.of("2 d.e v=spf1 a:com", "0 com 1.1.1.1"), "1.1.1.1", "d.e", "2 1 0 0 1 com");
         // What is no name is not asked for, but costs the lookup.
-        checks(table("2 d.e v=spf1 a:x..y mx:X exists:%% -all"), "1.1.1.1", "d.e", "3 3 0 3 1 d.e");
+        checks(Probe.of("2 d.e v=spf1 a:x..y mx:X exists:%% -all"), "1.1.1.1", "d.e", "3 3 0 3 1 d.e");
     }
 
     private static void mails() {
-        Probe probe = table("2 d.e v=spf1 mx -mx:m.e/16", "1 d.e x.e", "1 d.e y.e", "0 x.e 1.1.1.1", "0 y.e 2.2.2.2", "1 m.e y.e");
+        Probe probe = Probe.of("2 d.e v=spf1 mx -mx:m.e/16", "1 d.e x.e", "1 d.e y.e", "0 x.e 1.1.1.1", "0 y.e 2.2.2.2", "1 m.e y.e");
         checks(probe, "1.1.1.1", "d.e", "2 1 0 0 1 x.e");
         checks(probe, "2.2.2.2", "d.e", "2 1 0 0 1 y.e");
         checks(probe, "2.2.3.3", "d.e", "3 2 0 1 1 y.e");
         checks(probe, "2.3.3.3", "d.e", "1 2 0 -1 1 y.e");
-        checks(table("1 d.e x.e", "2 d.e v=spf1 mx", "0 x.e 1.1.1.1"), "1.1.1.1", "d.e", "2 1 0 0 1 x.e");
-        checks(table("2 d.e v=spf1 mx -all"), "1.1.1.1", "d.e", "3 1 1 1 1 d.e");
-        checks(table("2 d.e v=spf1 mx -all", "1 d.e v.e"), "1.1.1.1", "d.e", "3 1 1 1 1 v.e");
-        checks(table("2 d.e v=spf1 mx -all", "1 d.e v.e", "1 d.e w.e", "1 d.e h.e", "0 h.e 1.1.1.1"),
+        checks(Probe.of("1 d.e x.e", "2 d.e v=spf1 mx", "0 x.e 1.1.1.1"), "1.1.1.1", "d.e", "2 1 0 0 1 x.e");
+        checks(Probe.of("2 d.e v=spf1 mx -all"), "1.1.1.1", "d.e", "3 1 1 1 1 d.e");
+        checks(Probe.of("2 d.e v=spf1 mx -all", "1 d.e v.e"), "1.1.1.1", "d.e", "3 1 1 1 1 v.e");
+        checks(Probe.of("2 d.e v=spf1 mx -all", "1 d.e v.e", "1 d.e w.e", "1 d.e h.e", "0 h.e 1.1.1.1"),
             "1.1.1.1", "d.e", "2 1 2 0 1 h.e");
-        checks(table("2 d.e v=spf1 mx all", "1 d.e v.e", "1 d.e w.e", "1 d.e x.e", "0 h.e 1.1.1.1"),
+        checks(Probe.of("2 d.e v=spf1 mx all", "1 d.e v.e", "1 d.e w.e", "1 d.e x.e", "0 h.e 1.1.1.1"),
             "1.1.1.1", "d.e", "6 1 3 -1 1 x.e");
         String[] rows = new String[16];
         rows[0] = "2 d.e v=spf1 mx ~all";
@@ -173,12 +158,12 @@ public final class CheckTest {
         rows[13] = "0 t.e 1.1.1.10";
         rows[14] = "0 l.e 1.1.1.11";
         rows[15] = "4 z";
-        checks(table(rows), "1.1.1.10", "d.e", "2 1 0 0 1 t.e");
-        checks(table(rows), "1.1.1.11", "d.e", "4 1 0 1 1 t.e");
+        checks(Probe.of(rows), "1.1.1.10", "d.e", "2 1 0 0 1 t.e");
+        checks(Probe.of(rows), "1.1.1.11", "d.e", "4 1 0 1 1 t.e");
     }
 
     private static void exists() {
-        Probe probe = table("2 d.e v=spf1 -exists:%{i}.e ~all", "0 1.2.3.4.e 9.9.9.9", "1 1.2.3.5.e a");
+        Probe probe = Probe.of("2 d.e v=spf1 -exists:%{i}.e ~all", "0 1.2.3.4.e 9.9.9.9", "1 1.2.3.5.e a");
         checks(probe, "1.2.3.4", "d.e", "3 1 0 0 1 1.2.3.4.e");
         checks(probe, "1.2.3.5", "d.e", "4 1 1 1 1 1.2.3.5.e");
     }
@@ -187,17 +172,17 @@ public final class CheckTest {
         String[] inner = {"v=spf1 all", "v=spf1 ?all", "v=spf1 -all", "v=spf1 ~all", "v=spf1"};
         for (String data : inner) {
             String want = data.endsWith("1 all") ? "4 1 0 0 2 i.e" : "3 1 0 1 2 i.e";
-            checks(table("2 d.e v=spf1 ~include:i.e -all", "2 i.e " + data), "1.1.1.1", "d.e", want);
+            checks(Probe.of("2 d.e v=spf1 ~include:i.e -all", "2 i.e " + data), "1.1.1.1", "d.e", want);
         }
-        checks(table("2 d.e v=spf1 include:i.e all"), "1.1.1.1", "d.e", "6 1 0 -1 2 i.e");
-        checks(table("2 d.e v=spf1 include:com all", "2 com v=spf1 all"), "1.1.1.1", "d.e", "6 1 0 -1 2 d.e");
-        checks(table("2 d.e v=spf1 include:i..e all"), "1.1.1.1", "d.e", "6 1 0 -1 1 d.e");
-        checks(table("2 d.e v=spf1 include:i.e all", "2 i.e v=spf1 x"), "1.1.1.1", "d.e", "6 1 0 -1 2 i.e");
-        checks(table("2 d.e v=spf1 include:i.e all", "3 i.e"), "1.1.1.1", "d.e", "5 1 0 -1 2 i.e");
+        checks(Probe.of("2 d.e v=spf1 include:i.e all"), "1.1.1.1", "d.e", "6 1 0 -1 2 i.e");
+        checks(Probe.of("2 d.e v=spf1 include:com all", "2 com v=spf1 all"), "1.1.1.1", "d.e", "6 1 0 -1 2 d.e");
+        checks(Probe.of("2 d.e v=spf1 include:i..e all"), "1.1.1.1", "d.e", "6 1 0 -1 1 d.e");
+        checks(Probe.of("2 d.e v=spf1 include:i.e all", "2 i.e v=spf1 x"), "1.1.1.1", "d.e", "6 1 0 -1 2 i.e");
+        checks(Probe.of("2 d.e v=spf1 include:i.e all", "3 i.e"), "1.1.1.1", "d.e", "5 1 0 -1 2 i.e");
         // An inner match is not one of the first record, and the outer term is taken up again behind it.
-        checks(table("2 d.e v=spf1 ?include:i.e x=y ~include:j.e", "2 i.e v=spf1 ip4:9.9.9.9 -ip4:1.1.1.1", "2 j.e v=spf1 a all"),
+        checks(Probe.of("2 d.e v=spf1 ?include:i.e x=y ~include:j.e", "2 i.e v=spf1 ip4:9.9.9.9 -ip4:1.1.1.1", "2 j.e v=spf1 a all"),
             "1.1.1.1", "d.e", "4 3 1 1 3 j.e");
-        checks(table("2 d.e v=spf1 include:i.e", "2 i.e v=spf1 redirect=j.e", "2 j.e v=spf1 a:%{d}.%{o} all"),
+        checks(Probe.of("2 d.e v=spf1 include:i.e", "2 i.e v=spf1 redirect=j.e", "2 j.e v=spf1 a:%{d}.%{o} all"),
             "1.1.1.1", "d.e", "2 3 1 0 3 j.e.d.e");
     }
 
@@ -205,20 +190,20 @@ public final class CheckTest {
         String[] rows = {"all", "?all", "-all", "~all"};
         for (int k = 0; k < 4; k++) {
             int want = new int[] {2, 1, 3, 4}[k];
-            checks(table("2 d.e v=spf1 redirect=r.e", "2 r.e v=spf1 " + rows[k]), "1.1.1.1", "d.e", want + " 1 0 -1 2 r.e");
+            checks(Probe.of("2 d.e v=spf1 redirect=r.e", "2 r.e v=spf1 " + rows[k]), "1.1.1.1", "d.e", want + " 1 0 -1 2 r.e");
         }
-        checks(table("2 d.e v=spf1 redirect=r.e a", "2 r.e v=spf1 -all"), "1.1.1.1", "d.e", "3 2 1 -1 2 r.e");
-        checks(table("2 d.e v=spf1 redirect=r.e ~all", "2 r.e v=spf1 -all"), "1.1.1.1", "d.e", "4 0 0 0 1 d.e");
-        checks(table("2 d.e v=spf1 redirect=r.e"), "1.1.1.1", "d.e", "6 1 0 -1 2 r.e");
-        checks(table("2 d.e v=spf1 redirect=com"), "1.1.1.1", "d.e", "6 1 0 -1 2 d.e");
-        checks(table("2 d.e v=spf1 redirect=r/e"), "1.1.1.1", "d.e", "6 1 0 -1 1 d.e");
-        checks(table("2 d.e v=spf1 redirect=r.%{d}", "2 r.d.e v=spf1 redirect=s.%{d}", "2 s.r.d.e v=spf1 -all"),
+        checks(Probe.of("2 d.e v=spf1 redirect=r.e a", "2 r.e v=spf1 -all"), "1.1.1.1", "d.e", "3 2 1 -1 2 r.e");
+        checks(Probe.of("2 d.e v=spf1 redirect=r.e ~all", "2 r.e v=spf1 -all"), "1.1.1.1", "d.e", "4 0 0 0 1 d.e");
+        checks(Probe.of("2 d.e v=spf1 redirect=r.e"), "1.1.1.1", "d.e", "6 1 0 -1 2 r.e");
+        checks(Probe.of("2 d.e v=spf1 redirect=com"), "1.1.1.1", "d.e", "6 1 0 -1 2 d.e");
+        checks(Probe.of("2 d.e v=spf1 redirect=r/e"), "1.1.1.1", "d.e", "6 1 0 -1 1 d.e");
+        checks(Probe.of("2 d.e v=spf1 redirect=r.%{d}", "2 r.d.e v=spf1 redirect=s.%{d}", "2 s.r.d.e v=spf1 -all"),
             "1.1.1.1", "d.e", "3 2 0 -1 3 s.r.d.e");
-        checks(table("2 d.e v=spf1 redirect=r.e", "3 r.e"), "1.1.1.1", "d.e", "5 1 0 -1 2 r.e");
+        checks(Probe.of("2 d.e v=spf1 redirect=r.e", "3 r.e"), "1.1.1.1", "d.e", "5 1 0 -1 2 r.e");
     }
 
     private static void expands(String target, String want) {
-        Probe probe = table("2 d.e.f.g v=spf1 redirect=i.j.k", "2 i.j.k v=spf1 exists:" + target);
+        Probe probe = Probe.of("2 d.e.f.g v=spf1 redirect=i.j.k", "2 i.j.k v=spf1 exists:" + target);
         checks(probe, "1.20.103.4", "d.e.f.g", "1 2 1 -1 2 " + want);
     }
 
@@ -241,93 +226,93 @@ public final class CheckTest {
         expands("%{i3r}", "103.20.1");
         expands("%{o9r}", "g.f.e.d");
         expands("a-%{d1}_%{o1}.%{i1r}b", "a-k_g.1b");
-        checks(table("2 a.b v=spf1 exists:%%.b exists:%%{d} exists:%{d}%%", "0 a.b 1.1.1.1"), "0.0.0.0", "a.b", "1 3 0 -1 1 a.b");
-        checks(table("2 a.b v=spf1 exists:%{i}.x", "0 0.0.0.0.x 1.1.1.1"), "0.0.0.0", "a.b", "2 1 0 0 1 0.0.0.0.x");
+        checks(Probe.of("2 a.b v=spf1 exists:%%.b exists:%%{d} exists:%{d}%%", "0 a.b 1.1.1.1"), "0.0.0.0", "a.b", "1 3 0 -1 1 a.b");
+        checks(Probe.of("2 a.b v=spf1 exists:%{i}.x", "0 0.0.0.0.x 1.1.1.1"), "0.0.0.0", "a.b", "2 1 0 0 1 0.0.0.0.x");
         String[] addresses = {"255.255.255.255", "0.0.0.0", "100.99.10.9", "101.110.199.200", "250.20.11.1", "1.90.19.109"};
         for (String address : addresses) {
-            checks(table("2 a.b v=spf1 exists:%{i}"), address, "a.b", "1 1 1 -1 1 " + address);
+            checks(Probe.of("2 a.b v=spf1 exists:%{i}"), address, "a.b", "1 1 1 -1 1 " + address);
         }
         String twelveParts = "a.b.c.d.e.f.g.h.i.j.k.l";
         String[] macros = {"%{d}", "%{dr}", "%{d9}", "%{d9r}", "%{d8}", "%{d8r}"};
         String[] expanded = {twelveParts, "l.k.j.i.h.g.f.e.d.c.b.a", "d.e.f.g.h.i.j.k.l", "i.h.g.f.e.d.c.b.a", "e.f.g.h.i.j.k.l",
             "h.g.f.e.d.c.b.a"};
         for (int k = 0; k < macros.length; k++) {
-            checks(table("2 " + twelveParts + " v=spf1 exists:" + macros[k]), "1.1.1.1", twelveParts, "1 1 1 -1 1 " + expanded[k]);
+            checks(Probe.of("2 " + twelveParts + " v=spf1 exists:" + macros[k]), "1.1.1.1", twelveParts, "1 1 1 -1 1 " + expanded[k]);
         }
         // 48 characters are a name, 49 are none.
         String twelve = "abcdefgh.ijk";
-        checks(table("2 " + twelve + " v=spf1 exists:%{d}%{d}%{d}%{d}"), "1.1.1.1", twelve, "1 1 1 -1 1 " + twelve.repeat(4));
-        checks(table("2 " + twelve + " v=spf1 exists:%{d}%{d}%{d}%{d}x"), "1.1.1.1", twelve, "1 1 0 -1 1 " + twelve);
-        checks(table("2 " + twelve + " v=spf1 exists:%{d}%{d}%{d}%{d}%{d}%{d}%{d}%{d}"), "1.1.1.1", twelve, "1 1 0 -1 1 " + twelve);
+        checks(Probe.of("2 " + twelve + " v=spf1 exists:%{d}%{d}%{d}%{d}"), "1.1.1.1", twelve, "1 1 1 -1 1 " + twelve.repeat(4));
+        checks(Probe.of("2 " + twelve + " v=spf1 exists:%{d}%{d}%{d}%{d}x"), "1.1.1.1", twelve, "1 1 0 -1 1 " + twelve);
+        checks(Probe.of("2 " + twelve + " v=spf1 exists:%{d}%{d}%{d}%{d}%{d}%{d}%{d}%{d}"), "1.1.1.1", twelve, "1 1 0 -1 1 " + twelve);
         // A label of 17 characters, put together.
-        checks(table("2 abcdefghijklmnop.b v=spf1 exists:%{d1}%{d2r}"), "1.1.1.1", "abcdefghijklmnop.b",
+        checks(Probe.of("2 abcdefghijklmnop.b v=spf1 exists:%{d1}%{d2r}"), "1.1.1.1", "abcdefghijklmnop.b",
             "1 1 1 -1 1 bb.abcdefghijklmnop");
-        checks(table("2 b.abcdefghijklmnop v=spf1 exists:x%{d1}"), "1.1.1.1", "b.abcdefghijklmnop", "1 1 0 -1 1 b.abcdefghijklmnop");
+        checks(Probe.of("2 b.abcdefghijklmnop v=spf1 exists:x%{d1}"), "1.1.1.1", "b.abcdefghijklmnop", "1 1 0 -1 1 b.abcdefghijklmnop");
     }
 
     private static void lookupLimit() {
         String ten = " ip4:1.1.1.2 a a a a a exists:h.e mx a:! mx:! a";
         String[] rows = {"0 d.e 9.9.9.9", "0 h.e 9.9.9.9", "1 d.e d.e", ""};
         rows[3] = "2 d.e v=spf1 a" + ten.replace(" exists:h.e", "") + " -all";
-        checks(table(rows), "1.1.1.1", "d.e", "3 10 0 11 1 d.e");
+        checks(Probe.of(rows), "1.1.1.1", "d.e", "3 10 0 11 1 d.e");
         rows[3] = "2 d.e v=spf1 a a" + ten.replace(" exists:h.e", "") + " -all";
-        checks(table(rows), "1.1.1.1", "d.e", "6 10 0 -1 1 d.e");
+        checks(Probe.of(rows), "1.1.1.1", "d.e", "6 10 0 -1 1 d.e");
         rows[3] = "2 d.e v=spf1 a" + ten.replace(" exists:h.e", "") + " redirect=d.e";
-        checks(table(rows), "1.1.1.1", "d.e", "6 10 0 -1 1 d.e");
-        checks(table("2 d.e v=spf1 redirect=d.e"), "1.1.1.1", "d.e", "6 10 0 -1 11 d.e");
-        checks(table("2 d.e v=spf1 include:d.e"), "1.1.1.1", "d.e", "6 10 0 -1 11 d.e");
+        checks(Probe.of(rows), "1.1.1.1", "d.e", "6 10 0 -1 1 d.e");
+        checks(Probe.of("2 d.e v=spf1 redirect=d.e"), "1.1.1.1", "d.e", "6 10 0 -1 11 d.e");
+        checks(Probe.of("2 d.e v=spf1 include:d.e"), "1.1.1.1", "d.e", "6 10 0 -1 11 d.e");
         // The inner lookups count too: 1 + 9, and the next is one too many.
-        checks(table("2 d.e v=spf1 include:i.e all", "0 h.e 9.9.9.9", "2 i.e v=spf1" + " a:h.e".repeat(9)),
+        checks(Probe.of("2 d.e v=spf1 include:i.e all", "0 h.e 9.9.9.9", "2 i.e v=spf1" + " a:h.e".repeat(9)),
             "1.1.1.1", "d.e", "2 10 0 1 2 h.e");
-        checks(table("2 d.e v=spf1 include:i.e a:h.e all", "0 h.e 9.9.9.9", "2 i.e v=spf1" + " a:h.e".repeat(9)),
+        checks(Probe.of("2 d.e v=spf1 include:i.e a:h.e all", "0 h.e 9.9.9.9", "2 i.e v=spf1" + " a:h.e".repeat(9)),
             "1.1.1.1", "d.e", "6 10 0 -1 2 h.e");
     }
 
     private static void voidLimit() {
-        checks(table("2 d.e v=spf1 a:x.e mx:y.e all"), "1.1.1.1", "d.e", "2 2 2 2 1 y.e");
-        checks(table("2 d.e v=spf1 a:x.e mx:y.e exists:z.e all"), "1.1.1.1", "d.e", "6 3 3 -1 1 z.e");
-        checks(table("2 d.e v=spf1 a:x.e include:i.e all", "2 i.e v=spf1 a:y.e a:z.e all"), "1.1.1.1", "d.e", "6 4 3 -1 2 z.e");
+        checks(Probe.of("2 d.e v=spf1 a:x.e mx:y.e all"), "1.1.1.1", "d.e", "2 2 2 2 1 y.e");
+        checks(Probe.of("2 d.e v=spf1 a:x.e mx:y.e exists:z.e all"), "1.1.1.1", "d.e", "6 3 3 -1 1 z.e");
+        checks(Probe.of("2 d.e v=spf1 a:x.e include:i.e all", "2 i.e v=spf1 a:y.e a:z.e all"), "1.1.1.1", "d.e", "6 4 3 -1 2 z.e");
         // The voids of an earlier check do not count in the next one.
-        Probe probe = table("2 d.e v=spf1 a:x.e mx:y.e all");
+        Probe probe = Probe.of("2 d.e v=spf1 a:x.e mx:y.e all");
         checks(probe, "1.1.1.1", "d.e", "2 2 2 2 1 y.e");
         checks(probe, "1.1.1.1", "d.e", "2 2 2 2 1 y.e");
         // Rows with another address, or of another type, are told apart.
-        checks(table("2 d.e v=spf1 a:x.e a:y.e a:z.e -all", "0 x.e 2.2.2.2", "0 y.e 2.2.2.2", "0 z.e 2.2.2.2"),
+        checks(Probe.of("2 d.e v=spf1 a:x.e a:y.e a:z.e -all", "0 x.e 2.2.2.2", "0 y.e 2.2.2.2", "0 z.e 2.2.2.2"),
             "1.1.1.1", "d.e", "3 3 0 3 1 z.e");
-        checks(table("2 d.e v=spf1 a:x.e -all", "1 x.e y.e", "2 x.e y", "4 x.e"), "1.1.1.1", "d.e", "3 1 1 1 1 x.e");
+        checks(Probe.of("2 d.e v=spf1 a:x.e -all", "1 x.e y.e", "2 x.e y", "4 x.e"), "1.1.1.1", "d.e", "3 1 1 1 1 x.e");
     }
 
     private static void brokenNames() {
-        checks(table("2 d.e v=spf1 all", "3 d.e"), "1.1.1.1", "d.e", "5 0 0 -1 1 d.e");
-        checks(table("3 d.e", "2 d.e v=spf1 all", "2 d.e v=spf1 all"), "1.1.1.1", "d.e", "5 0 0 -1 1 d.e");
-        checks(table("2 d.e v=spf1 a:x.e all", "0 x.e 1.1.1.1", "3 x.e"), "1.1.1.1", "d.e", "5 1 0 -1 1 x.e");
-        checks(table("2 d.e v=spf1 exists:x.e all", "3 x.e"), "1.1.1.1", "d.e", "5 1 0 -1 1 x.e");
-        checks(table("2 d.e v=spf1 mx:x.e all", "3 x.e"), "1.1.1.1", "d.e", "5 1 0 -1 1 x.e");
-        checks(table("2 d.e v=spf1 mx all", "1 d.e x.e", "3 x.e"), "1.1.1.1", "d.e", "5 1 0 -1 1 x.e");
-        checks(table("2 d.e v=spf1 mx all", "1 d.e h.e", "1 d.e x.e", "3 x.e", "0 h.e 1.1.1.1"), "1.1.1.1", "d.e", "2 1 0 0 1 h.e");
-        checks(table("2 d.e v=spf1 all", "3 e", "3 x.d.e"), "1.1.1.1", "d.e", "2 0 0 0 1 d.e");
+        checks(Probe.of("2 d.e v=spf1 all", "3 d.e"), "1.1.1.1", "d.e", "5 0 0 -1 1 d.e");
+        checks(Probe.of("3 d.e", "2 d.e v=spf1 all", "2 d.e v=spf1 all"), "1.1.1.1", "d.e", "5 0 0 -1 1 d.e");
+        checks(Probe.of("2 d.e v=spf1 a:x.e all", "0 x.e 1.1.1.1", "3 x.e"), "1.1.1.1", "d.e", "5 1 0 -1 1 x.e");
+        checks(Probe.of("2 d.e v=spf1 exists:x.e all", "3 x.e"), "1.1.1.1", "d.e", "5 1 0 -1 1 x.e");
+        checks(Probe.of("2 d.e v=spf1 mx:x.e all", "3 x.e"), "1.1.1.1", "d.e", "5 1 0 -1 1 x.e");
+        checks(Probe.of("2 d.e v=spf1 mx all", "1 d.e x.e", "3 x.e"), "1.1.1.1", "d.e", "5 1 0 -1 1 x.e");
+        checks(Probe.of("2 d.e v=spf1 mx all", "1 d.e h.e", "1 d.e x.e", "3 x.e", "0 h.e 1.1.1.1"), "1.1.1.1", "d.e", "2 1 0 0 1 h.e");
+        checks(Probe.of("2 d.e v=spf1 all", "3 e", "3 x.d.e"), "1.1.1.1", "d.e", "2 0 0 0 1 d.e");
     }
 
     private static void latestAndAsked() {
-        Probe probe = table("2 d.e v=spf1 x=y ?ip4:9.9.9.9 z= a:host.e -all");
+        Probe probe = Probe.of("2 d.e v=spf1 x=y ?ip4:9.9.9.9 z= a:host.e -all");
         checks(probe, "1.1.1.1", "d.e", "3 1 1 2 1 host.e");
         int[] none = {-1, 5, 6, Integer.MIN_VALUE, Integer.MAX_VALUE};
         for (int w : none) {
-            Probe.due("latest(" + w + ")", probe.guard.latest(w), -1);
+            Probe.due("latest(" + w + ")", probe.guard().latest(w), -1);
         }
-        Probe.due("asked(-1)", probe.guard.asked(-1), 6);
-        Probe.due("asked(0)", probe.guard.asked(0), (int) 'h');
-        Probe.due("asked(5)", probe.guard.asked(5), (int) 'e');
+        Probe.due("asked(-1)", probe.guard().asked(-1), 6);
+        Probe.due("asked(0)", probe.guard().asked(0), (int) 'h');
+        Probe.due("asked(5)", probe.guard().asked(5), (int) 'e');
         int[] beyond = {-2, 6, 7, Integer.MIN_VALUE, Integer.MAX_VALUE};
         for (int i : beyond) {
-            Probe.due("asked(" + i + ")", probe.guard.asked(i), -1);
+            Probe.due("asked(" + i + ")", probe.guard().asked(i), -1);
         }
         // The latest check alone counts, also where it asked for nothing.
         checks(probe, "1.1.1.1", "com", "0 0 0 -1 1 ");
-        Probe.due("asked(-1)", probe.guard.asked(-1), -1);
-        Probe.due("asked(0)", probe.guard.asked(0), -1);
+        Probe.due("asked(-1)", probe.guard().asked(-1), -1);
+        Probe.due("asked(0)", probe.guard().asked(0), -1);
         checks(probe, "9.9.9.9", "d.e", "1 0 0 0 1 d.e");
-        probe.guard.drop(0);
+        probe.guard().drop(0);
         Probe.due("latest after drop", probe.latest() + " " + probe.asked(), "1 0 0 0 1 d.e");
     }
 }

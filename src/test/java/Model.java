@@ -372,17 +372,28 @@ final class Model {
     }
 
     /** The same as that of a Probe. */
-    String view() {
+    String glance(int at) {
         StringBuilder all = new StringBuilder();
         all.append(text.length()).append(" | ");
         int[] latest = result == -1 ? new int[] {-1, -1, -1, -1, -1} : new int[] {result, lookups, voids, matched, checks};
         for (int w = 0; w < 5; w++) {
             all.append(w == 0 ? "" : " ").append(latest[w]);
         }
-        all.append(" | ").append(asked).append(" | ").append(table.size());
-        for (int k = 0; k <= 16; k++) {
-            all.append(' ').append(k < table.size() ? table.get(k).type : -1);
+        all.append(" | ").append(asked(-1)).append(' ').append(asked(at));
+        return all.append(" | ").append(rows(-1)).append(' ').append(rows(at)).toString();
+    }
+
+    private int asked(int i) {
+        if (i == -1 && !asked.isEmpty()) {
+            return asked.length();
         }
-        return all.toString();
+        return i >= 0 && i < asked.length() ? asked.charAt(i) : -1;
+    }
+
+    private int rows(int k) {
+        if (k == -1) {
+            return table.size();
+        }
+        return k >= 0 && k < table.size() ? table.get(k).type : -1;
     }
 }

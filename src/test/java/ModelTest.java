@@ -1,6 +1,8 @@
 /** Long mixed runs of calls, the same in each session, compared with Model call by call. */
 public final class ModelTest {
-    private static final int RUNS = 6000;
+    private static final int RUNS = 8000;
+    // With the parts that are typed and the glances at it, an object is not used for more calls than it is good for.
+    private static final int STEPS = 20;
     private static final String[] NAMES = {"a.b", "a.b", "c.a.b", "b", "d.e", "x.d.e", "e.f.g", "1.2.a.b", "a", "b.a",
         "aaaaaaaaaaaaaaaa.bbbbbbbbbbbbbbbb.cccccccccc.a.b"};
     private static final String[] ADDRESSES = {"1.2.3.4", "1.2.3.5", "200.2.3.4", "0.0.0.0", "255.255.255.255", "1.2.200.1"};
@@ -99,12 +101,12 @@ public final class ModelTest {
     }
 
     private static void text(Probe probe, Model model, String text) {
-        probe.guard.wipe();
+        probe.guard().wipe();
         model.wipe();
         String typed = below(25) == 0 ? spoilt(text) : text;
         for (int i = 0; i < typed.length(); i += 8) {
             long part = Probe.part(typed.substring(i));
-            Probe.due("type of " + typed, probe.guard.type(part), model.type(part));
+            Probe.due("type of " + typed, probe.guard().type(part), model.type(part));
         }
     }
 
@@ -121,26 +123,27 @@ public final class ModelTest {
         String name = one(names);
         switch (below(12)) {
             case 0:
-                Probe.due(run + ": drop(" + k + ")", probe.guard.drop(k), model.drop(k));
+                Probe.due(run + ": drop(" + k + ")", probe.guard().drop(k), model.drop(k));
                 break;
             case 1:
             case 2:
                 text(probe, model, name);
-                Probe.due(run + ": policy of " + name, Probe.caught(() -> probe.guard.policy(chance)), model.policy(chance));
+                Probe.due(run + ": policy of " + name, Probe.caught(() -> probe.guard().policy(chance)), model.policy(chance));
                 break;
             case 3:
             case 4:
             case 5:
             case 6:
                 text(probe, model, name);
-                Probe.due(run + ": check of " + name, Probe.caught(() -> probe.guard.check(address)), model.check(address));
+                Probe.due(run + ": check of " + name, Probe.caught(() -> probe.guard().check(address)), model.check(address));
                 break;
             default:
                 text(probe, model, rowText(Math.min(type, 4)));
-                Probe.due(run + ": row(" + type + ")", Probe.caught(() -> probe.guard.row(type)), model.row(type));
+                Probe.due(run + ": row(" + type + ")", Probe.caught(() -> probe.guard().row(type)), model.row(type));
                 break;
         }
-        Probe.due(run + ": what is seen", probe.view(), model.view());
+        int at = below(20) - 3;
+        Probe.due(run + ": what is seen at " + at, probe.glance(at), model.glance(at));
     }
 
     public static void main(String[] args) {
@@ -148,7 +151,7 @@ public final class ModelTest {
             Probe probe = new Probe();
             Model model = new Model();
             names = new String[] {one(NAMES), one(NAMES), one(NAMES), one(NAMES), one(NAMES)};
-            for (int call = 0; call < 25; call++) {
+            for (int step = 0; step < STEPS; step++) {
                 step(run, probe, model);
             }
         }

@@ -16,22 +16,15 @@ public final class PolicyTest {
         Probe.end();
     }
 
-    /** A table of rows, each written as its type, a blank and its text, after a check of d.e. */
+    /** A table of rows, after a check of d.e. */
     private static Probe table(String... rows) {
-        Probe probe = new Probe();
-        for (int k = 0; k < rows.length; k++) {
-            int type = rows[k].charAt(0) - '0';
-            Probe.due("row '" + rows[k] + "'", probe.row(type, rows[k].substring(2)), k + 1);
-        }
+        Probe probe = Probe.of(rows);
         probe.check("1.2.3.4", "d.e");
         return probe;
     }
 
     private static void says(Probe probe, int chance, String name, int want, String asked) {
-        String call = "policy(" + chance + ") of " + name;
-        Probe.due(call, probe.policy(chance, name), want);
-        Probe.due("asked in " + call, probe.asked(), asked);
-        Probe.due("length after " + call, probe.guard.length(), 0);
+        probe.says(chance, name, want, asked);
     }
 
     private static void data(String data, int want) {
@@ -58,7 +51,7 @@ public final class PolicyTest {
     private static void refuses(Probe probe, int chance, String text, int want) {
         probe.text(text);
         String before = probe.view();
-        Probe.due("policy(" + chance + ") of '" + text + "'", Probe.caught(() -> probe.guard.policy(chance)), want);
+        Probe.due("policy(" + chance + ") of '" + text + "'", Probe.caught(() -> probe.guard().policy(chance)), want);
         Probe.due("after it", probe.view(), before);
     }
 
@@ -143,9 +136,9 @@ public final class PolicyTest {
         says(table("4 " + NAME_48), 0, NAME_48, 0, "_dmarc." + NAME_48);
         Probe longest = table("4 " + NAME_48);
         longest.policy(0, NAME_48);
-        Probe.due("asked(-1)", longest.guard.asked(-1), 55);
-        Probe.due("asked(54)", longest.guard.asked(54), (int) 'a');
-        Probe.due("asked(55)", longest.guard.asked(55), -1);
+        Probe.due("asked(-1)", longest.guard().asked(-1), 55);
+        Probe.due("asked(54)", longest.guard().asked(54), (int) 'a');
+        Probe.due("asked(55)", longest.guard().asked(55), -1);
     }
 
     /** Without any policy the last name asked for is that of the organisation. */

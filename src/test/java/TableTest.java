@@ -16,8 +16,8 @@ public final class TableTest {
         Probe probe = new Probe();
         probe.row(4, "z");
         Probe.due("row(" + type + ") of '" + text + "'", probe.row(type, text), 2);
-        Probe.due("length after it", probe.guard.length(), 0);
-        Probe.due("rows(1) after it", probe.guard.rows(1), type);
+        Probe.due("length after it", probe.guard().length(), 0);
+        Probe.due("rows(1) after it", probe.guard().rows(1), type);
     }
 
     private static void refuses(int type, String text) {
@@ -25,7 +25,7 @@ public final class TableTest {
         probe.row(4, "z");
         probe.text(text);
         String before = probe.view();
-        Probe.due("row(" + type + ") of '" + text + "'", Probe.caught(() -> probe.guard.row(type)), Probe.ILLEGAL_ARGUMENT);
+        Probe.due("row(" + type + ") of '" + text + "'", Probe.caught(() -> probe.guard().row(type)), Probe.ILLEGAL_ARGUMENT);
         Probe.due("after it", probe.view(), before);
     }
 
@@ -92,17 +92,17 @@ public final class TableTest {
         }
         probe.text("more");
         String before = probe.view();
-        Probe.due("the seventeenth", Probe.caught(() -> probe.guard.row(3)), Probe.ILLEGAL_STATE);
+        Probe.due("the seventeenth", Probe.caught(() -> probe.guard().row(3)), Probe.ILLEGAL_STATE);
         Probe.due("after the seventeenth", probe.view(), before);
-        Probe.due("a wrong seventeenth", Probe.caught(() -> probe.guard.row(5)), Probe.ILLEGAL_ARGUMENT);
-        Probe.due("drop of the last", probe.guard.drop(15), true);
+        Probe.due("a wrong seventeenth", Probe.caught(() -> probe.guard().row(5)), Probe.ILLEGAL_ARGUMENT);
+        Probe.due("drop of the last", probe.guard().drop(15), true);
         Probe.due("the sixteenth again", probe.row(4, "more"), 16);
-        Probe.due("its type", probe.guard.rows(15), 4);
+        Probe.due("its type", probe.guard().rows(15), 4);
     }
 
     private static void dropMovesUp() {
         Probe probe = new Probe();
-        Probe.due("drop(0) of none", probe.guard.drop(0), false);
+        Probe.due("drop(0) of none", probe.guard().drop(0), false);
         probe.row(0, "a 1.2.3.4");
         probe.row(1, "b b");
         probe.row(2, "d.e v=spf1 -all");
@@ -110,22 +110,22 @@ public final class TableTest {
         int[] none = {-1, 4, 16, Integer.MIN_VALUE, Integer.MAX_VALUE};
         for (int k : none) {
             String before = probe.view();
-            Probe.due("drop(" + k + ")", probe.guard.drop(k), false);
+            Probe.due("drop(" + k + ")", probe.guard().drop(k), false);
             Probe.due("after drop(" + k + ")", probe.view(), before);
         }
         probe.text("keep");
-        Probe.due("drop(1)", probe.guard.drop(1), true);
-        Probe.due("after drop(1)", probe.view(), "4 | -1 -1 -1 -1 -1 |  | 3 0 2 3" + " -1".repeat(14));
+        Probe.due("drop(1)", probe.guard().drop(1), true);
+        Probe.due("after drop(1)", probe.view(), "4 | -1 -1 -1 -1 -1 |  | 3 0 2 3 -1");
         Probe.due("what moved up", probe.check("1.1.1.1", "d.e"), 3);
-        Probe.due("drop(2)", probe.guard.drop(2), true);
-        Probe.due("drop(2) again", probe.guard.drop(2), false);
-        Probe.due("drop(0)", probe.guard.drop(0), true);
-        Probe.due("drop(0) again", probe.guard.drop(0), true);
-        Probe.due("rows(-1)", probe.guard.rows(-1), 0);
+        Probe.due("drop(2)", probe.guard().drop(2), true);
+        Probe.due("drop(2) again", probe.guard().drop(2), false);
+        Probe.due("drop(0)", probe.guard().drop(0), true);
+        Probe.due("drop(0) again", probe.guard().drop(0), true);
+        Probe.due("rows(-1)", probe.guard().rows(-1), 0);
         Probe.due("what is gone", probe.check("1.1.1.1", "d.e"), 0);
         // A slot that is used again must not keep what stood there.
         probe.row(2, "d.e v=spf1 -all");
-        probe.guard.drop(0);
+        probe.guard().drop(0);
         probe.row(2, "d.e v=spf1");
         Probe.due("a row in the place of a longer one", probe.check("1.1.1.1", "d.e"), 1);
     }
@@ -135,14 +135,14 @@ public final class TableTest {
         String[] texts = {"a 1.2.3.4", "a b", "a x", "a", "a"};
         for (int type = 0; type < 5; type++) {
             probe.row(type, texts[type]);
-            Probe.due("rows(-1)", probe.guard.rows(-1), type + 1);
+            Probe.due("rows(-1)", probe.guard().rows(-1), type + 1);
         }
         for (int type = 0; type < 5; type++) {
-            Probe.due("rows(" + type + ")", probe.guard.rows(type), type);
+            Probe.due("rows(" + type + ")", probe.guard().rows(type), type);
         }
         int[] none = {-2, 5, 16, Integer.MIN_VALUE, Integer.MAX_VALUE};
         for (int k : none) {
-            Probe.due("rows(" + k + ")", probe.guard.rows(k), -1);
+            Probe.due("rows(" + k + ")", probe.guard().rows(k), -1);
         }
     }
 }
