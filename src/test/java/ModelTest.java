@@ -37,6 +37,20 @@ public final class ModelTest {
         return below(2) == 0 ? "" : "/" + some[below(some.length)];
     }
 
+    /** A few characters that mean something at some place, at any place. */
+    private static String noise(String of) {
+        StringBuilder text = new StringBuilder();
+        for (int k = 1 + below(7); k > 0; k--) {
+            text.append(of.charAt(below(of.length())));
+        }
+        return text.toString();
+    }
+
+    private static String noisyTerm() {
+        String[] ahead = {"", "a:", "exists:", "a/", "mx:x/", "ip4:1.2.3.", "ip4:1.2.3.4/", "x=", "exists:%{", "x=%{d", "include:a.b%"};
+        return one(ahead) + noise("a:/=%{}dior0123.+-~_%{}");
+    }
+
     private static String term() {
         String sign = new String[] {"", "", "+", "-", "?", "~"}[below(6)];
         switch (below(12)) {
@@ -61,7 +75,7 @@ public final class ModelTest {
             case 10:
                 return below(2) == 0 ? "redirect=" + target() : "x=" + (below(2) == 0 ? "" : one(TARGETS));
             default:
-                return below(4) == 0 ? one(WRONG) : sign + "ip4:" + one(ADDRESSES);
+                return below(4) == 0 ? (below(2) == 0 ? one(WRONG) : noisyTerm()) : sign + "ip4:" + one(ADDRESSES);
         }
     }
 
@@ -73,10 +87,21 @@ public final class ModelTest {
         return data.append(below(8) == 0 ? " " : "").toString();
     }
 
+    private static String tag() {
+        switch (below(30)) {
+            case 0:
+                return one(WRONG_TAGS);
+            case 1:
+                return one(new String[] {"", "p", "x=", "pct=", "p=none"}) + noise("p=;x 0195");
+            default:
+                return one(TAGS);
+        }
+    }
+
     private static String policyData() {
         StringBuilder data = new StringBuilder("v=DMARC1");
         for (int k = 1 + below(4); k > 0; k--) {
-            data.append(below(2) == 0 ? ";" : "; ").append(below(20) == 0 ? one(WRONG_TAGS) : one(TAGS)).append(below(6) == 0 ? " " : "");
+            data.append(below(2) == 0 ? ";" : "; ").append(tag()).append(below(6) == 0 ? " " : "");
         }
         return data.append(below(3) == 0 ? ";" : "").toString();
     }

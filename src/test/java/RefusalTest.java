@@ -4,8 +4,8 @@ import java.util.function.Function;
 import java.util.function.Supplier;
 
 /**
- * "A call that answers false or NONE, or throws, changes nothing." Each such call is made on one of two objects that are made alike;
- * then both are led on, and must answer the same, so that also what cannot be seen at once is seen to be as it was.
+ * "A call that answers false or NONE, or throws, changes nothing." Each such call is made on one of two objects that are made
+ * alike; then both are led on, and must answer the same, so that also what cannot be seen at once is seen to be as it was.
  */
 public final class RefusalTest {
     private static final int FALSE = 0;
@@ -147,12 +147,14 @@ public final class RefusalTest {
         List<Function<Probe, String>> ways = List.of(Probe::view, RefusalTest::textTaken, RefusalTest::textJudged, RefusalTest::textAsRow,
             RefusalTest::checkJudged, RefusalTest::tableChecked, RefusalTest::tableDropped);
         for (Function<Probe, String> way : ways) {
-            Probe with = made.get();
-            Probe without = made.get();
-            Probe.due(refused.called, refused.call.apply(with), refused.due);
-            // The second of two must find the same, too.
-            Probe.due(refused.called + " again", refused.call.apply(with), refused.due);
-            Probe.due("what comes after " + refused.called, way.apply(with), way.apply(without));
+            String without = way.apply(made.get());
+            Probe once = made.get();
+            Probe.due(refused.called, refused.call.apply(once), refused.due);
+            Probe.due("what comes after " + refused.called, way.apply(once), without);
+            Probe twice = made.get();
+            refused.call.apply(twice);
+            Probe.due(refused.called + " again", refused.call.apply(twice), refused.due);
+            Probe.due("what comes after two of " + refused.called, way.apply(twice), without);
         }
     }
 

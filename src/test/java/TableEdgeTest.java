@@ -15,6 +15,7 @@ public final class TableEdgeTest {
         dropOfNone();
         rowsOfEachTable();
         rowsStayInOrder();
+        latestStays();
         Probe.end();
     }
 
@@ -210,5 +211,16 @@ public final class TableEdgeTest {
         probe.checks("1.2.3.4", "d.e", "2 1 0 0 1 y.e");
         Probe.due("drop(1)", probe.guard().drop(1), true);
         probe.checks("1.2.3.4", "d.e", "2 1 0 0 1 x.e");
+    }
+
+    private static void latestStays() {
+        Probe.sentence("About the latest check: rows that come and go leave what is told of it");
+        Probe probe = Probe.of("2 d.e v=spf1 a:v.e -all");
+        probe.check("1.2.3.4", "d.e");
+        probe.row(0, "v.e 1.2.3.4");
+        Probe.due("what is seen after row", probe.view(), "0 | 3 1 1 1 1 | v.e | 2 2 0 -1");
+        probe.text("keep");
+        Probe.due("drop(0)", probe.guard().drop(0), true);
+        Probe.due("what is seen after drop", probe.view(), "4 | 3 1 1 1 1 | v.e | 1 0 -1");
     }
 }

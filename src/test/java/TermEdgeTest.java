@@ -21,6 +21,7 @@ public final class TermEdgeTest {
         otherModifiers();
         lettersOfMacros();
         digitsOfMacros();
+        whatMacrosStandFor();
         partsOfMacros();
         partsTheOtherWayRound();
         Probe.end();
@@ -328,6 +329,23 @@ public final class TermEdgeTest {
         }
         macro("%{d10}", false);
         macro("%{d01}", false);
+    }
+
+    private static void whatMacrosStandFor() {
+        Probe.sentence("%% is a %; d is the domain that is checked, i the address as written, o the domain that was checked first");
+        String[] leading = {"include:i.j", "redirect=i.j"};
+        for (String term : leading) {
+            Probe probe = Probe.of("2 d.e v=spf1 " + term, "2 i.j v=spf1 include:k.l", "2 k.l v=spf1 exists:%{d}.%{i}.%{o}");
+            probe.checks("1.20.103.4", "d.e", "1 3 1 -1 3 k.l.1.20.103.4.d.e");
+            // The next check has an address and a domain of its own.
+            probe.checks("0.0.0.0", "i.j", "1 2 1 -1 2 k.l.0.0.0.0.i.j");
+            probe.checks("255.255.255.255", "k.l", "1 1 1 -1 1 k.l.255.255.255.255.k.l");
+            probe.checks("9.8.7.6", "d.e", "1 3 1 -1 3 k.l.9.8.7.6.d.e");
+        }
+        // Behind an include the domain is the outer one again.
+        Probe.of("2 d.e v=spf1 include:i.j exists:%{d}.x", "2 i.j v=spf1 -exists:%{d}", "0 i.j 9.9.9.9").checks("1.2.3.4", "d.e", "1 3 1 -1 2 d.e.x");
+        // A % is no character of a NAME, so %% leads to none; and what it makes is not expanded again.
+        Probe.of("2 d.e v=spf1 exists:%% exists:%%{d} exists:%{d}%%").checks("1.2.3.4", "d.e", "1 3 0 -1 1 d.e");
     }
 
     private static String joined(int from, int to, boolean turned) {
